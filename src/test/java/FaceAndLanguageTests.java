@@ -1,0 +1,129 @@
+import java.io.IOException;
+import java.lang.management.ManagementFactory;
+import java.lang.reflect.Constructor;
+import java.lang.reflect.Field;
+import java.lang.reflect.Method;
+import java.lang.reflect.Modifier;
+import java.nio.file.Files;
+import java.nio.file.Path;
+import java.util.Arrays;
+import java.util.Set;
+import java.util.TreeSet;
+import java.util.regex.Matcher;
+import java.util.regex.Pattern;
+
+/** The public face is the document's; the source keeps to the rules that a look at it can tell; calls make no objects. */
+public final class FaceAndLanguageTests {
+    private static final String[] METHODS = {
+        "part(int,int)", "add()", "take(int)", "remove(int)", "bar(int,boolean)", "clean()", "rule(int,int)",
+        "exact(int)", "look(int,int)", "brief(int,int,int)", "recall(int,int)", "at(int)", "far(int)",
+        "between(int,int)", "steps()", "level(int)", "entry()", "neighbour(int,int,int)", "reached()", "count(int)"};
+    private static int wrong = 0;
+
+    public static void main(String[] args) throws IOException {
+        face();
+        language();
+        room();
+        System.out.println(wrong == 0 ? "all is as due" : wrong + " things are not as due");
+        if (wrong != 0) {
+            System.exit(1);
+        }
+    }
+
+    private static void holds(String what, boolean held) {
+        if (!held) {
+            wrong++;
+            System.out.println("does not hold: " + what);
+        }
+    }
+
+    private static String inputs(Class<?>[] types) {
+        StringBuilder text = new StringBuilder();
+        for (Class<?> type : types) {
+            text.append(text.length() == 0 ? "" : ",").append(type.getName());
+        }
+        return "(" + text + ")";
+    }
+
+    private static void face() {
+        Class<?> face = VectorGraphs.class;
+        holds("the class is public and final", Modifier.isPublic(face.getModifiers()) && Modifier.isFinal(face.getModifiers()));
+        holds("the constants", VectorGraphs.BAD == -1 && VectorGraphs.NONE == -2 && VectorGraphs.FULL == -3);
+        Set<String> open = new TreeSet<>();
+        Set<String> publicNames = new TreeSet<>();
+        for (Method method : face.getDeclaredMethods()) {
+            if (!Modifier.isPrivate(method.getModifiers())) {
+                open.add(method.getName() + inputs(method.getParameterTypes()));
+                publicNames.add(method.getName());
+                holds(method + " is public and answers int", Modifier.isPublic(method.getModifiers()) && method.getReturnType() == int.class);
+            }
+        }
+        holds("the methods are " + open, open.equals(new TreeSet<>(Arrays.asList(METHODS))));
+        for (Method method : face.getDeclaredMethods()) {
+            holds(method + " has no public one's name", !Modifier.isPrivate(method.getModifiers()) || !publicNames.contains(method.getName()));
+        }
+        for (Field field : face.getDeclaredFields()) {
+            boolean constant = Set.of("BAD", "NONE", "FULL").contains(field.getName());
+            holds(field + " is as open as it may be", constant == Modifier.isPublic(field.getModifiers())
+                && constant != Modifier.isPrivate(field.getModifiers()));
+        }
+        Constructor<?>[] made = face.getDeclaredConstructors();
+        holds("one constructor", made.length == 1 && inputs(made[0].getParameterTypes()).equals("(int,int)"));
+        for (Class<?> inside : face.getDeclaredClasses()) {
+            holds(inside + " is static", Modifier.isStatic(inside.getModifiers()));
+            for (Method method : inside.getDeclaredMethods()) {
+                holds(method + " has no public one's name", !publicNames.contains(method.getName()));
+            }
+            for (Field field : inside.getDeclaredFields()) {
+                holds(field + " is final if static", !Modifier.isStatic(field.getModifiers()) || Modifier.isFinal(field.getModifiers()));
+            }
+        }
+    }
+
+    private static void language() throws IOException {
+        String source = Files.readString(Path.of("src/main/java/VectorGraphs.java"));
+        String code = source.replaceAll("(?s)/\\*.*?\\*/", "").replaceAll("//[^\n]*", "");
+        String[] never = {"throw", "try", "catch", "synchronized", "assert", "package", "import", "native", "volatile",
+            "Thread", "Random", "hashCode", "toString", "equals", "Object", "var"};
+        for (String word : never) {
+            holds("no word " + word, !Pattern.compile("\\b" + word + "\\b").matcher(code).find());
+        }
+        holds("no lambda, no method reference", !code.contains("->") && !code.contains("::"));
+        holds("no static block", !Pattern.compile("static\\s*\\{").matcher(code).find());
+        holds("no while: each loop counts in its own lines", !Pattern.compile("\\bwhile\\b").matcher(code).find());
+        Matcher library = Pattern.compile("\\b(Math|System|Integer|Long|Arrays|String)\\.(\\w+)").matcher(code);
+        while (library.find()) {
+            holds("the library's " + library.group(), Set.of("Math.max", "Math.min", "System.arraycopy").contains(library.group()));
+        }
+    }
+
+    /** All that a run makes is made with the object: 512 dear calls make next to nothing. */
+    private static void room() {
+        com.sun.management.ThreadMXBean bean = (com.sun.management.ThreadMXBean) ManagementFactory.getThreadMXBean();
+        dearCalls(new VectorGraphs(8, 3));
+        long atFirst = bean.getCurrentThreadAllocatedBytes();
+        VectorGraphs x = new VectorGraphs(8, 3);
+        long made = bean.getCurrentThreadAllocatedBytes();
+        dearCalls(x);
+        long after = bean.getCurrentThreadAllocatedBytes();
+        holds("the constructor makes less than 64 KiB: " + (made - atFirst), made - atFirst < 65536);
+        holds("512 calls make less than 4 KiB: " + (after - made), after - made < 4096);
+    }
+
+    private static void dearCalls(VectorGraphs x) {
+        for (int i = 0; i < 100; i++) {
+            x.part(i % 8, i * 37 % 201 - 100);
+            x.add();
+        }
+        for (int i = 0; i < 39; i++) {
+            x.rule(i % 3, i % 3 == 1 ? 2 + i % 5 : i % 2);
+            x.look(60, 60);
+            x.recall(60, 60);
+            x.brief(50, 100, 1 + i);
+            x.exact(100);
+            x.reached();
+            x.remove(i);
+            x.clean();
+        }
+    }
+}
