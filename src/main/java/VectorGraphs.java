@@ -186,8 +186,8 @@ public final class VectorGraphs {
     public int count(int what) {
         switch (what) {
             case 0: return vectors.total;
-            case 1: return vectors.removedOnes();
-            case 2: return vectors.barredOnes();
+            case 1: return vectors.marked(vectors.removed);
+            case 2: return vectors.marked(vectors.barred);
             case 3: return vectors.freeOnes();
             case 4: return vectors.parts;
             case 5: return vectors.measure;
@@ -303,18 +303,11 @@ public final class VectorGraphs {
             return measure == 1 ? PART_LIMIT * q * parts - sum : sum;
         }
 
-        int removedOnes() {
+        /** How many of the vectors bear such a mark. */
+        int marked(boolean[] marks) {
             int many = 0;
-            for (int i = 0; i < total; i++) {
-                many += removed[i] ? 1 : 0;
-            }
-            return many;
-        }
-
-        int barredOnes() {
-            int many = 0;
-            for (int i = 0; i < total; i++) {
-                many += barred[i] ? 1 : 0;
+            for (int i = 0; i < total && i < marks.length; i++) {
+                many += marks[i] ? 1 : 0;
             }
             return many;
         }
@@ -330,13 +323,12 @@ public final class VectorGraphs {
 
     /** Numbers of vectors in order BEFORE, as seen from one vector, with their FAR from it. */
     private static final class Ranks {
-        private final int[] numbers;
-        private final int[] fars;
+        // FAR times MOST_VECTORS plus the number: the lesser key is BEFORE; below 33 million
+        private final int[] keys;
         int size;
 
         Ranks(int room) {
-            numbers = new int[Math.max(1, room)];
-            fars = new int[Math.max(1, room)];
+            keys = new int[Math.max(1, room)];
             size = 0;
         }
 
@@ -345,16 +337,16 @@ public final class VectorGraphs {
         }
 
         int numberAt(int k) {
-            return k >= 0 && k < size ? numbers[k] : BAD;
+            return k >= 0 && k < size ? keys[k] % MOST_VECTORS : BAD;
         }
 
         int farAt(int k) {
-            return k >= 0 && k < size ? fars[k] : BAD;
+            return k >= 0 && k < size ? keys[k] / MOST_VECTORS : BAD;
         }
 
         boolean holds(int number) {
             for (int k = 0; k < size; k++) {
-                if (numbers[k] == number) {
+                if (keys[k] % MOST_VECTORS == number) {
                     return true;
                 }
             }
@@ -362,28 +354,26 @@ public final class VectorGraphs {
         }
 
         boolean lastIsBefore(int number, int far) {
-            return size > 0 && isBefore(size - 1, number, far);
+            return size > 0 && keys[size - 1] < far * MOST_VECTORS + number;
         }
 
         void put(int number, int far) {
-            if (size >= numbers.length) {
+            if (size >= keys.length) {
                 return;
             }
+            int key = far * MOST_VECTORS + number;
             int place = size;
-            for (; place > 0 && !isBefore(place - 1, number, far); place--) {
-                numbers[place] = numbers[place - 1];
-                fars[place] = fars[place - 1];
+            for (; place > 0 && keys[place - 1] > key; place--) {
+                keys[place] = keys[place - 1];
             }
-            numbers[place] = number;
-            fars[place] = far;
+            keys[place] = key;
             size++;
         }
 
         void dropFirst() {
             if (size > 0) {
                 size--;
-                System.arraycopy(numbers, 1, numbers, 0, size);
-                System.arraycopy(fars, 1, fars, 0, size);
+                System.arraycopy(keys, 1, keys, 0, size);
             }
         }
 
@@ -394,13 +384,8 @@ public final class VectorGraphs {
         /** What stands at k stands at an earlier place, too. */
         void moveUp(int k, int earlier) {
             if (earlier >= 0 && earlier <= k && k < size) {
-                numbers[earlier] = numbers[k];
-                fars[earlier] = fars[k];
+                keys[earlier] = keys[k];
             }
-        }
-
-        private boolean isBefore(int k, int number, int far) {
-            return fars[k] < far || fars[k] == far && numbers[k] < number;
         }
     }
 

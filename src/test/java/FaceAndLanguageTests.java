@@ -100,7 +100,9 @@ public final class FaceAndLanguageTests {
     /** All that a run makes is made with the object: 512 dear calls make next to nothing. */
     private static void room() {
         com.sun.management.ThreadMXBean bean = (com.sun.management.ThreadMXBean) ManagementFactory.getThreadMXBean();
+        // once before, so that what loading the classes makes is not counted
         dearCalls(new VectorGraphs(8, 3));
+        bean.getCurrentThreadAllocatedBytes();
         long atFirst = bean.getCurrentThreadAllocatedBytes();
         VectorGraphs x = new VectorGraphs(8, 3);
         long made = bean.getCurrentThreadAllocatedBytes();
