@@ -690,8 +690,8 @@ public final class PromiseTests {
     private static void wildArguments() {
         promise = "all, wild arguments";
         int[] wild = {Integer.MIN_VALUE, Integer.MIN_VALUE + 1, -1000, -2, 100, 101, 1 << 20, Integer.MAX_VALUE - 1, Integer.MAX_VALUE};
-        for (VectorGraphs x : new VectorGraphs[] {new VectorGraphs(2, 7), islandLine()}) {
-            for (int a : wild) {
+        for (int a : wild) {
+            for (VectorGraphs x : new VectorGraphs[] {new VectorGraphs(2, 7), islandLine()}) {
                 due("take", x.take(a), -1);
                 due("remove", x.remove(a), -1);
                 due("bar", x.bar(a, true), -1);
