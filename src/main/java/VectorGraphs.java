@@ -596,7 +596,7 @@ public final class VectorGraphs {
         }
 
         private void meet(int number, int most, int origin) {
-            if (met[number]) {
+            if (!vectors.has(number) || met[number]) {
                 return;
             }
             met[number] = true;

@@ -7,12 +7,16 @@ import java.lang.reflect.Modifier;
 import java.nio.file.Files;
 import java.nio.file.Path;
 import java.util.Arrays;
+import java.util.Random;
 import java.util.Set;
 import java.util.TreeSet;
 import java.util.regex.Matcher;
 import java.util.regex.Pattern;
 
-/** The public face is the document's; the source keeps to the rules that a look at it can tell; calls make no objects. */
+/**
+ * The public face is the document's; the source keeps to the rules that a look at it can tell; no call throws, and
+ * calls make no objects.
+ */
 public final class FaceAndLanguageTests {
     private static final String[] METHODS = {
         "part(int,int)", "add()", "take(int)", "remove(int)", "bar(int,boolean)", "clean()", "rule(int,int)",
@@ -23,6 +27,7 @@ public final class FaceAndLanguageTests {
     public static void main(String[] args) throws IOException {
         face();
         language();
+        noCallThrows();
         room();
         System.out.println(wrong == 0 ? "all is as due" : wrong + " things are not as due");
         if (wrong != 0) {
@@ -94,6 +99,59 @@ public final class FaceAndLanguageTests {
         Matcher library = Pattern.compile("\\b(Math|System|Integer|Long|Arrays|String)\\.(\\w+)").matcher(code);
         while (library.find()) {
             holds("the library's " + library.group(), Set.of("Math.max", "Math.min", "System.arraycopy").contains(library.group()));
+        }
+    }
+
+    /** Rule 7: whatever the arguments and the state are; an object that throws ends this program. */
+    private static void noCallThrows() {
+        Random random = new Random(5);
+        for (int run = 0; run < 60; run++) {
+            VectorGraphs x = new VectorGraphs(wild(random), random.nextInt());
+            // far behind the 512th call its answers are free, but it still answers
+            for (int k = 0; k < 3000; k++) {
+                anyCall(x, random);
+            }
+            holds("PARTS 1 .. 8", x.count(4) >= 1 && x.count(4) <= 8);
+            holds("VECTORS 0 .. 100", x.count(0) >= 0 && x.count(0) <= 100);
+        }
+    }
+
+    private static int wild(Random random) {
+        switch (random.nextInt(6)) {
+            case 0: return random.nextInt();
+            case 1: return Integer.MIN_VALUE + random.nextInt(3);
+            case 2: return Integer.MAX_VALUE - random.nextInt(3);
+            case 3: return random.nextInt(210) - 105;
+            default: return random.nextInt(9) - 1;
+        }
+    }
+
+    private static void anyCall(VectorGraphs x, Random random) {
+        int a = wild(random);
+        int b = wild(random);
+        int c = wild(random);
+        switch (random.nextInt(24)) {
+            case 0: x.part(a, b); break;
+            case 1: x.take(a); break;
+            case 2: x.remove(a); break;
+            case 3: x.bar(a, random.nextBoolean()); break;
+            case 4: if (random.nextInt(20) == 0) { x.clean(); } break;
+            case 5: x.rule(a, b); break;
+            case 6: x.exact(a); break;
+            case 7: x.look(a, b); break;
+            case 8: x.brief(a, b, c); break;
+            case 9: x.recall(a, b); break;
+            case 10: x.at(a); break;
+            case 11: x.far(a); break;
+            case 12: x.between(a, b); break;
+            case 13: x.steps(); break;
+            case 14: x.level(a); break;
+            case 15: x.entry(); break;
+            case 16: x.neighbour(a, b, c); break;
+            case 17: x.reached(); break;
+            case 18: x.count(a); break;
+            case 19: x.part(random.nextInt(8), random.nextInt(201) - 100); break;
+            default: x.add();
         }
     }
 

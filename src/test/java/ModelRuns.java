@@ -39,6 +39,8 @@ public final class ModelRuns {
         final int run;
         final Random random;
         final int reach;
+        /** Few vectors, which often all go: what is due without vectors comes up again and again. */
+        final boolean sparse;
         final VectorGraphs tried;
         final Model model;
         int left = CALLS;
@@ -50,6 +52,7 @@ public final class ModelRuns {
             int seed = run % 3 == 0 ? random.nextInt() : random.nextInt(220) - 60;
             // small reaches make many vectors equally far
             reach = new int[] {1, 3, 10, 40, 100}[random.nextInt(5)];
+            sparse = run % 5 == 0;
             tried = new VectorGraphs(parts, seed);
             model = new Model(parts, seed);
         }
@@ -64,9 +67,13 @@ public final class ModelRuns {
 
         void play() {
             int wanted = new int[] {3, 15, 40, 100}[random.nextInt(4)];
-            fill(wanted);
+            fill(sparse ? random.nextInt(4) : wanted);
             for (int k = 0; k < CALLS && left > KEPT_FOR_THE_ROWS; k++) {
-                oneCall();
+                if (sparse && random.nextInt(3) == 0) {
+                    sparseCall();
+                } else {
+                    oneCall();
+                }
             }
             rows();
         }
@@ -80,6 +87,25 @@ public final class ModelRuns {
                     part(random.nextInt(model.parts), from(-reach, reach));
                 }
                 add();
+            }
+        }
+
+        void sparseCall() {
+            switch (random.nextInt(5)) {
+                case 0: removeAll(); clean(); break;
+                case 1: clean(); break;
+                case 2: look(); break;
+                case 3: recall(); break;
+                default: exact();
+            }
+            call("steps()", tried.steps(), model.steps);
+            call("reached()", tried.reached(), model.reached());
+            call("count(8)", tried.count(8), model.count(8));
+        }
+
+        void removeAll() {
+            for (int i = 0; i < model.rows.size(); i++) {
+                call("remove(" + i + ")", tried.remove(i), model.remove(i));
             }
         }
 
